@@ -210,11 +210,11 @@ public final class SnoresGold {
         }
         Camp camp = now.camp;
         camp.listen();
-        int best = 0;
-        int most = -1;
+        int best = NONE;
+        int most = 0;
         for (int cell = 0; cell < CELLS; cell++) {
             int loud = camp.heardAt(cell);
-            if (loud > most) {
+            if (best == NONE || loud > most) {
                 best = cell;
                 most = loud;
             }
@@ -301,12 +301,12 @@ public final class SnoresGold {
         Camp camp = now.camp;
         camp.listen();
         int from = camp.tentOf(man);
-        int best = from;
-        int least = Integer.MAX_VALUE;
+        int best = NONE;
+        int least = 0;
         for (int cell = 0; cell < CELLS; cell++) {
             if (distance(from, cell) <= k) {
                 int loud = ofHim ? camp.heardByOthers(man, cell) : camp.heardWithout(man, cell);
-                if (loud < least) {
+                if (best == NONE || loud < least) {
                     best = cell;
                     least = loud;
                 }
@@ -385,12 +385,12 @@ public final class SnoresGold {
         if (all == 0) {
             return NONE;
         }
-        int best = 0;
-        int fewest = Integer.MAX_VALUE;
+        int best = NONE;
+        int fewest = all;
         for (int cell = 0; cell < CELLS; cell++) {
             int on = now.sights.countThrough(cell);
             int left = Math.max(on, all - on);
-            if (left < fewest) {
+            if (best == NONE || left < fewest) {
                 best = cell;
                 fewest = left;
             }

@@ -124,6 +124,14 @@ public final class GroundTest {
         due("4 and the other", x.told(105), 9);
         due("4 not another's", x.told(106), 2);
         due("4 not heard", x.heard(4), 0);
+        x.claim(0, 2);
+        x.claim(63, 2);
+        x.man(3, 0);
+        x.leave(2);
+        due("4 the first cell, too", x.told(100), 9);
+        due("4 the last cell, too", x.told(163), 9);
+        x.man(2, 4);
+        x.leave(3);
         due("4 bits", x.told(1), 4);
         due("4 his tales stay", x.told(2), 1);
         due("4 comes again", x.man(1, 0), 2);

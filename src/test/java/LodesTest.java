@@ -18,8 +18,10 @@ public final class LodesTest {
         next();
         turns();
         colds();
+        coldsOfGold();
         coldsOutside();
         year();
+        yearOfActs();
         image();
         restore();
         told();
@@ -218,6 +220,32 @@ public final class LodesTest {
         chance(x, 0, 10, -1, 18, 1);
     }
 
+    private static void coldsOfGold() {
+        SnoresGold x = new SnoresGold();
+        x.gold(0, 9);
+        x.gold(1, 8);
+        x.man(0, 0);
+        x.man(4, 10);
+        x.know(0, 0, true);
+        x.know(4, 1, true);
+        // A 9 or 12; E is 3 off: 5 or 8
+        chance(x, 0, 2, 14, 1, 1);
+        chance(x, 0, 2, 15, 9, 25);
+        chance(x, 0, 2, 17, 9, 25);
+        chance(x, 0, 2, 18, 1, 25);
+        chance(x, 0, 2, 20, 1, 25);
+        chance(x, 0, 2, 21, 0, 1);
+        chance(x, 0, 2, -1, 76, 5);
+        for (int cell = 20; cell < 31; cell++) {
+            x.gold(cell, 9);
+            x.know(0, cell, true);
+        }
+        x.leave(4);
+        // 108: 99 with a cold or without
+        chance(x, 0, 5, 99, 1, 1);
+        chance(x, 0, 5, 100, 0, 1);
+    }
+
     private static void coldsOutside() {
         SnoresGold x = new SnoresGold();
         x.man(0, 0);
@@ -263,6 +291,86 @@ public final class LodesTest {
         }
         due("30 least", x.year(0, 1, 0), 0);
         due("30 greatest", x.year(9999, 99, 0), 0);
+    }
+
+    /** What the acts do in a year, by seeds that draw just these. */
+    private static void yearOfActs() {
+        SnoresGold x = new SnoresGold();
+        x.man(0, 0);
+        x.man(3, 27);
+        for (int cell = 0; cell < 64; cell++) {
+            x.gold(cell, cell % 10);
+        }
+        due("30 A claims", x.year(seedOf("Ac"), 1, 1), 1);
+        due("30 D claims", x.year(seedOf("Dc"), 1, 1), 1);
+        due("30 B is not there", x.year(seedOf("Bc"), 1, 1), 0);
+        due("30 D claims twice", x.year(seedOf("DcDc"), 2, 1), 1);
+        due("30 A and D claim", x.year(seedOf("AcDc"), 2, 1), 2);
+        x.claim(27, 0);
+        due("30 D claims what is A's", x.year(seedOf("Dc"), 1, 1), 1);
+        String steps = "nesw";
+        int[] cells = {35, 28, 19, 26};
+        for (int i = 0; i < 4; i++) {
+            x.claim(cells[i], 3);
+            due("30 D steps on what is his, and claims", x.year(seedOf("D" + steps.charAt(i) + "Dc"), 2, 1), 2);
+            x.claim(cells[i], -1);
+            due("30 D steps on what is nobody's", x.year(seedOf("D" + steps.charAt(i) + "Dc"), 2, 1), 2);
+        }
+        x.claim(27, 3);
+        due("30 D digs, a night", x.year(seedOf("Dd."), 2, 0), 7);
+        due("30 D digs, no night", x.year(seedOf("Dd"), 1, 0), 0);
+        due("30 a night before he digs", x.year(seedOf(".Dd"), 2, 0), 0);
+        due("30 two nights", x.year(seedOf(".."), 2, 0), 0);
+        x.know(3, 27, true);
+        due("30 D knows it", x.year(seedOf("."), 1, 0), 7);
+        due("30 two nights of it", x.year(seedOf(".."), 2, 0), 14);
+        due("30 he digs no more there", x.year(seedOf("Dd."), 2, 0), 7);
+        x.claim(29, 3);
+        x.know(3, 29, true);
+        due("30 less the woman's", x.year(seedOf("."), 1, 0), 15);
+        due("30 the woman's", x.year(seedOf("."), 1, 2), 1);
+        Due.write(x, ".");
+        x.done();
+        due("30 the salt that was, too", x.year(seedOf("."), 1, 0), 30);
+        due("30 the woman's of the year only", x.year(seedOf("."), 1, 2), 1);
+        x.claim(28, 0);
+        x.know(0, 28, true);
+        due("30 of all together", x.year(seedOf("."), 1, 0), 38);
+        due("30 a cold is no matter", x.year(seedOf("D*."), 2, 0), 38);
+        x.leave(3);
+        due("30 not of who is no more", x.year(seedOf("."), 1, 0), 8);
+        due("30 as many acts as told", x.year(seedOf("..Ac"), 2, 0), 16);
+    }
+
+    /** The least seed by which these acts are drawn first. */
+    private static int seedOf(String acts) {
+        for (int seed = 0; seed <= 9999; seed++) {
+            if (drawn(seed, acts)) {
+                return seed;
+            }
+        }
+        throw new IllegalStateException("no seed draws " + acts);
+    }
+
+    private static boolean drawn(int seed, String acts) {
+        int x = seed;
+        int place = 0;
+        while (place < acts.length()) {
+            x = (75 * x + 74) % 65537;
+            char deed = "neswdc.*".charAt(x / 6 % 8);
+            if (acts.charAt(place) == '.') {
+                if (deed != '.') {
+                    return false;
+                }
+                place += 1;
+            } else {
+                if (acts.charAt(place) - 'A' != x % 6 || acts.charAt(place + 1) != deed) {
+                    return false;
+                }
+                place += 2;
+            }
+        }
+        return true;
     }
 
     private static int nightsOf(int seed, int acts) {
@@ -313,7 +421,9 @@ public final class LodesTest {
         x.gold(5, 1);
         x.claim(5, -1);
         x.claim(6, 2);
-        x.tale(2, 5, false);
+        x.hush();
+        x.tale(2, 6, false);
+        x.tale(2, 6, true);
         x.forget();
         Due.write(x, "...");
         due("32 restored", x.restore(0), 1);
@@ -328,6 +438,11 @@ public final class LodesTest {
         due("32 knows", x.told(25), 1);
         due("32 tales", x.told(2), 1);
         due("32 liars", x.liars(0), 0);
+        x.man(0, 0);
+        x.tale(0, 5, true);
+        due("32 what he told", x.liars(0), 0);
+        x.tale(1, 5, false);
+        due("32 of that cell, and he himself", x.liars(0), -6);
         due("32 sights", x.told(3), 1);
         due("32 lodes", x.lodes(-1), 4);
         due("32 the pad stays", x.told(0), 3);

@@ -70,6 +70,10 @@ public final class TentsTest {
         due("18 all steps: not heard", x.hide(0, 14, 1), 0);
         due("18 all steps: the least such cell", x.hide(0, 14, 0), 7);
         due("18 who makes no sound", x.hide(1, 14, 0), 0);
+        x.gold(8, 5);
+        x.know(1, 8, true);
+        due("18 heard by the least man, too", x.hide(1, 0, 1), 5 + 4);
+        x.know(1, 8, false);
         due("18 the others' own are no matter", x.hide(1, 14, 1), 0);
         int[] wrongSteps = {-1, 15, Integer.MIN_VALUE, Integer.MAX_VALUE};
         for (int k : wrongSteps) {
@@ -141,6 +145,7 @@ public final class TentsTest {
         due("21 two of four", x.liars(0), 2);
         due("21 two of four: who", x.liars(1), 3);
         x.tale(5, 7, false);
+        x.tale(4, 6, true);
         due("21 fewer against more", x.liars(1), 3);
         x.tale(0, 8, true);
         x.tale(1, 8, true);
@@ -201,6 +206,43 @@ public final class TentsTest {
         x.know(2, 2, true);
         due("22 no such twos", x.leaves(131245), -2);
         pairLeaves();
+        asMuchIsNotMore();
+        oneGainsAndOneDoesNot();
+    }
+
+    private static void asMuchIsNotMore() {
+        SnoresGold x = new SnoresGold();
+        x.man(0, 0);
+        x.man(1, 0);
+        x.man(2, 0);
+        x.gold(0, 8);
+        x.gold(1, 4);
+        x.gold(2, 4);
+        x.know(0, 0, true);
+        x.know(1, 1, true);
+        x.know(1, 2, true);
+        due("22 both as much as alone", x.leaves(12345), -6);
+        // 1 and 2 would each have 8 of 16, as 1 has alone
+        for (int cell = 3; cell < 5; cell++) {
+            x.gold(cell, 4);
+            x.know(2, cell, true);
+        }
+        due("22 all as much as alone", x.leaves(12345), -6);
+        // together they lack nothing, and 2 alone has as much
+        due("22 as much alone as with him", x.leaves(21345), -6);
+        x.gold(0, 6);
+        // 0 has 7 with 1, alone 6; 1 has 7, alone 8, with 2 as much as alone
+        due("22 1 alone, and 0 with 2", x.leaves(102345), 11);
+        x.know(0, 1, true);
+        x.know(0, 2, true);
+        // 0 knows 14, 1 knows 8 of these: 7 each
+        due("22 0 alone is the least", x.leaves(102345), 0);
+        x.man(1, 0);
+        x.man(0, 0);
+        x.gold(0, 8);
+        x.know(0, 0, true);
+        // 0 and 2 each have 8 now, and would have 8 together; 1 with either has more, but not the other
+        due("22 the poor gain, the rich do not", x.leaves(12345), -6);
     }
 
     private static void pairLeaves() {
@@ -226,6 +268,28 @@ public final class TentsTest {
         due("22 4 with 0", x.leaves(412305), 0);
         due("22 5 with 3", x.leaves(12543), 33);
         due("22 none can gain", x.leaves(13245), 22);
+    }
+
+    private static void oneGainsAndOneDoesNot() {
+        SnoresGold x = new SnoresGold();
+        x.man(0, 0);
+        x.man(1, 0);
+        x.man(2, 0);
+        x.gold(0, 8);
+        x.gold(1, 8);
+        x.know(0, 0, true);
+        x.know(1, 1, true);
+        // with 1, 0 would have 8, as much as now; 1 would have more than the 4 with 2
+        due("22 as much is not more for the lesser", x.leaves(21345), 11);
+        x.gold(0, 4);
+        x.gold(2, 4);
+        x.gold(3, 4);
+        x.know(1, 2, true);
+        x.know(2, 3, true);
+        // with 0, 1 would have 8, as much as with 2 now; 0 would have more than 4
+        due("22 as much is not more for the greater", x.leaves(21345), 11);
+        x.gold(0, 5);
+        due("22 a half more is more", x.leaves(21345), 1);
     }
 
     private static void leavesWrong() {
