@@ -967,10 +967,10 @@ public final class SnoresGold {
 
         private void passNight() {
             for (int man = 0; man < MEN; man++) {
-                int yield = goldIn(cellsClaimedBy(man) & known[man]);
-                int tenth = yield / 10;
+                int gain = goldIn(cellsClaimedBy(man) & known[man]);
+                int tenth = gain / 10;
                 womans += tenth;
-                salts[man] = Math.min(MOST_SALT, salts[man] + yield - tenth);
+                salts[man] = Math.min(MOST_SALT, salts[man] + gain - tenth);
             }
         }
     }
