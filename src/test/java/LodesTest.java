@@ -269,7 +269,7 @@ public final class LodesTest {
         x.know(2, 2, true);
         x.claim(1, 2);
         x.claim(2, 2);
-        int nights = nightsOf(7, 99);
+        int nights = Draws.nightsOf(7, 99);
         due("30 salt of nights", x.year(7, 99, 0) >= 17 * nights ? 1 : 0, 1);
         due("30 the woman's", x.year(7, 99, 2), nights);
         x.leave(2);
@@ -301,86 +301,45 @@ public final class LodesTest {
         for (int cell = 0; cell < 64; cell++) {
             x.gold(cell, cell % 10);
         }
-        due("30 A claims", x.year(seedOf("Ac"), 1, 1), 1);
-        due("30 D claims", x.year(seedOf("Dc"), 1, 1), 1);
-        due("30 B is not there", x.year(seedOf("Bc"), 1, 1), 0);
-        due("30 D claims twice", x.year(seedOf("DcDc"), 2, 1), 1);
-        due("30 A and D claim", x.year(seedOf("AcDc"), 2, 1), 2);
+        due("30 A claims", x.year(Draws.seedOf("Ac"), 1, 1), 1);
+        due("30 D claims", x.year(Draws.seedOf("Dc"), 1, 1), 1);
+        due("30 B is not there", x.year(Draws.seedOf("Bc"), 1, 1), 0);
+        due("30 D claims twice", x.year(Draws.seedOf("DcDc"), 2, 1), 1);
+        due("30 A and D claim", x.year(Draws.seedOf("AcDc"), 2, 1), 2);
         x.claim(27, 0);
-        due("30 D claims what is A's", x.year(seedOf("Dc"), 1, 1), 1);
+        due("30 D claims what is A's", x.year(Draws.seedOf("Dc"), 1, 1), 1);
         String steps = "nesw";
         int[] cells = {35, 28, 19, 26};
         for (int i = 0; i < 4; i++) {
             x.claim(cells[i], 3);
-            due("30 D steps on what is his, and claims", x.year(seedOf("D" + steps.charAt(i) + "Dc"), 2, 1), 2);
+            due("30 D steps on what is his, and claims", x.year(Draws.seedOf("D" + steps.charAt(i) + "Dc"), 2, 1), 2);
             x.claim(cells[i], -1);
-            due("30 D steps on what is nobody's", x.year(seedOf("D" + steps.charAt(i) + "Dc"), 2, 1), 2);
+            due("30 D steps on what is nobody's", x.year(Draws.seedOf("D" + steps.charAt(i) + "Dc"), 2, 1), 2);
         }
         x.claim(27, 3);
-        due("30 D digs, a night", x.year(seedOf("Dd."), 2, 0), 7);
-        due("30 D digs, no night", x.year(seedOf("Dd"), 1, 0), 0);
-        due("30 a night before he digs", x.year(seedOf(".Dd"), 2, 0), 0);
-        due("30 two nights", x.year(seedOf(".."), 2, 0), 0);
+        due("30 D digs, a night", x.year(Draws.seedOf("Dd."), 2, 0), 7);
+        due("30 D digs, no night", x.year(Draws.seedOf("Dd"), 1, 0), 0);
+        due("30 a night before he digs", x.year(Draws.seedOf(".Dd"), 2, 0), 0);
+        due("30 two nights", x.year(Draws.seedOf(".."), 2, 0), 0);
         x.know(3, 27, true);
-        due("30 D knows it", x.year(seedOf("."), 1, 0), 7);
-        due("30 two nights of it", x.year(seedOf(".."), 2, 0), 14);
-        due("30 he digs no more there", x.year(seedOf("Dd."), 2, 0), 7);
+        due("30 D knows it", x.year(Draws.seedOf("."), 1, 0), 7);
+        due("30 two nights of it", x.year(Draws.seedOf(".."), 2, 0), 14);
+        due("30 he digs no more there", x.year(Draws.seedOf("Dd."), 2, 0), 7);
         x.claim(29, 3);
         x.know(3, 29, true);
-        due("30 less the woman's", x.year(seedOf("."), 1, 0), 15);
-        due("30 the woman's", x.year(seedOf("."), 1, 2), 1);
+        due("30 less the woman's", x.year(Draws.seedOf("."), 1, 0), 15);
+        due("30 the woman's", x.year(Draws.seedOf("."), 1, 2), 1);
         Due.write(x, ".");
         x.done();
-        due("30 the salt that was, too", x.year(seedOf("."), 1, 0), 30);
-        due("30 the woman's of the year only", x.year(seedOf("."), 1, 2), 1);
+        due("30 the salt that was, too", x.year(Draws.seedOf("."), 1, 0), 30);
+        due("30 the woman's of the year only", x.year(Draws.seedOf("."), 1, 2), 1);
         x.claim(28, 0);
         x.know(0, 28, true);
-        due("30 of all together", x.year(seedOf("."), 1, 0), 38);
-        due("30 a cold is no matter", x.year(seedOf("D*."), 2, 0), 38);
+        due("30 of all together", x.year(Draws.seedOf("."), 1, 0), 38);
+        due("30 a cold is no matter", x.year(Draws.seedOf("D*."), 2, 0), 38);
         x.leave(3);
-        due("30 not of who is no more", x.year(seedOf("."), 1, 0), 8);
-        due("30 as many acts as told", x.year(seedOf("..Ac"), 2, 0), 16);
-    }
-
-    /** The least seed by which these acts are drawn first. */
-    private static int seedOf(String acts) {
-        for (int seed = 0; seed <= 9999; seed++) {
-            if (drawn(seed, acts)) {
-                return seed;
-            }
-        }
-        throw new IllegalStateException("no seed draws " + acts);
-    }
-
-    private static boolean drawn(int seed, String acts) {
-        int x = seed;
-        int place = 0;
-        while (place < acts.length()) {
-            x = (75 * x + 74) % 65537;
-            char deed = "neswdc.*".charAt(x / 6 % 8);
-            if (acts.charAt(place) == '.') {
-                if (deed != '.') {
-                    return false;
-                }
-                place += 1;
-            } else {
-                if (acts.charAt(place) - 'A' != x % 6 || acts.charAt(place + 1) != deed) {
-                    return false;
-                }
-                place += 2;
-            }
-        }
-        return true;
-    }
-
-    private static int nightsOf(int seed, int acts) {
-        long x = seed;
-        int nights = 0;
-        for (int act = 0; act < acts; act++) {
-            x = (75 * x + 74) % 65537;
-            nights += x / 6 % 8 == 6 ? 1 : 0;
-        }
-        return nights;
+        due("30 not of who is no more", x.year(Draws.seedOf("."), 1, 0), 8);
+        due("30 as many acts as told", x.year(Draws.seedOf("..Ac"), 2, 0), 16);
     }
 
     private static void image() {
