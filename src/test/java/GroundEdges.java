@@ -109,8 +109,8 @@ final class GroundEdges {
         due("and the refusal", new SnoresGold().odds(64, 0), SnoresGold.GONE + SnoresGold.OUTSIDE);
     }
 
-    @Holds(promise = 1, sentence = "UNKNOWN -1 (there is no such MAN), OUTSIDE -2 (another number is not as told), NO -5 "
-        + "(as told), STATE -3 (as told), FULL -4")
+    @Holds(promise = 1, sentence = "UNKNOWN -1 (there is no such MAN), OUTSIDE -2 (another number is not as told), "
+        + "NO -5 (as told), STATE -3 (as told), FULL -4")
     static void newRefusalsByTheirNumbers() {
         SnoresGold x = new SnoresGold();
         due("UNKNOWN", x.leave(0), -1);
@@ -228,7 +228,8 @@ final class GroundEdges {
         }
     }
 
-    @Holds(promise = 3, sentence = "KNOWS some CELLS (none at first), has a COLD or not, WHISTLES or not (neither at first)")
+    @Holds(promise = 3, sentence = "KNOWS some CELLS (none at first), has a COLD or not, WHISTLES or not "
+        + "(neither at first)")
     static void manNewHasNothing() {
         SnoresGold x = Edges.menOn(6, 0);
         for (int man = 0; man < 6; man++) {

@@ -11,7 +11,8 @@ import java.util.regex.Pattern;
 public final class LanguageTest {
     private static final Path SOURCE = Path.of("src/main/java/SnoresGold.java");
     private static final String[] BANNED = {"\\bthrow\\b", "\\btry\\b", "\\bcatch\\b", "\\bsynchronized\\b",
-        "\\bassert\\b", "->", "::", "\\bimport\\b", "\\bpackage\\b", "Exact\\(", "\\bprotected\\b", "\\bSystem\\.(?!arraycopy)",
+        "\\bassert\\b", "->", "::", "\\bimport\\b", "\\bpackage\\b", "Exact\\(", "\\bprotected\\b",
+        "\\bSystem\\.(?!arraycopy)",
         "\\b(Object|Thread|Random|Runtime|File)\\b", "\\b(equals|hashCode|toString)\\(", "\\bnull\\b"};
     private static final Pattern METHOD =
         Pattern.compile("^( {4}| {8})(?! )[a-z].*?(\\w+)\\(([^)]*)\\) \\{$");
@@ -69,7 +70,8 @@ public final class LanguageTest {
         boolean inConstructor = false;
         for (int i = 0; i < lines.size(); i++) {
             String line = bare(lines.get(i));
-            inConstructor = line.matches(" +(public )?[A-Z]\\w*\\(\\) \\{") || inConstructor && !line.matches(" {4}( {4})?}");
+            inConstructor = line.matches(" +(public )?[A-Z]\\w*\\(\\) \\{")
+                || inConstructor && !line.matches(" {4}( {4})?}");
             if (line.contains("new ")) {
                 Due.due("line " + (i + 1) + " makes", inConstructor && MAKES.matcher(line).matches() ? 0 : 1, 0);
             }

@@ -325,6 +325,10 @@ final class LodesEdges {
         fit(x, 0);
         due("next(0)", x.next(0), 0);
         due("next(1)", x.next(1), 1);
+        SnoresGold far = sights(56, 7);
+        fit(far, 38);
+        due("a cell that is not on it does as well", far.next(0), 0);
+        due("one is left", far.next(1), 1);
     }
 
     @Holds(promise = 27, sentence = "so that, on it or not")
@@ -379,7 +383,8 @@ final class LodesEdges {
         turnsAre(1, 101, 1);
     }
 
-    @Holds(promise = 28, sentence = "how much more who begins has in the end than the other one, both playing best, and 100")
+    @Holds(promise = 28, sentence = "how much more who begins has in the end than the other one, both playing "
+        + "best, and 100")
     static void turnsTheMostThatCanBe() {
         turnsAre(909090, 127, 0);
         turnsAre(90909, 127, 1);
@@ -496,8 +501,8 @@ final class LodesEdges {
         chanceIs(x, 5, 9, 21, 32);
     }
 
-    @Holds(promise = 29, sentence = "each by himself, whatever he has now: that v or more (0 to 999) is HEARD at a CELL; "
-        + "the mean")
+    @Holds(promise = 29, sentence = "each by himself, whatever he has now: that v or more (0 to 999) is HEARD "
+        + "at a CELL; the mean")
     static void coldsWhateverHeHasNow() {
         SnoresGold x = Edges.menOn(1, 0);
         Due.write(x, "A*");
@@ -614,8 +619,8 @@ final class LodesEdges {
         due("the hundredth does not", claimer(7).year(beyond, 99, 0), 7 * Draws.nightsOf(beyond, 99));
     }
 
-    @Holds(promise = 30, sentence = "becomes for each (75 x and 74) left over by 65537: of MAN x left over by 6, by x by 6 "
-        + "(cut) left over by 8")
+    @Holds(promise = 30, sentence = "becomes for each (75 x and 74) left over by 65537: of MAN x left over by 6, "
+        + "by x by 6 (cut) left over by 8")
     static void yearTheDrawnNumberComesRound() {
         // From seed 873 on the first number drawn is 65537 or more before it is left over.
         SnoresGold x = Edges.menOn(6, 9);
@@ -698,6 +703,9 @@ final class LodesEdges {
         due("the claim that was", x.year(seed, 1, 1), 2);
         due("not what the woman had before", x.year(seed, 1, 2), 0);
         due("not what she had in a year", x.year(seed, 1, 2), 0);
+        x.leave(0);
+        due("not the salt of who is no more", x.year(seed, 1, 0), 0);
+        due("nor his claims", x.year(seed, 1, 1), 0);
     }
 
     @Holds(promise = 30, sentence = "Nothing is DONE in fact.")
@@ -812,7 +820,7 @@ final class LodesEdges {
         x.claim(50, 5);
         x.hush();
         x.tale(5, 5, true);
-        x.tale(5, 5, false);
+        x.tale(5, 6, true);
         x.forget();
         x.seen(0, true);
     }

@@ -207,6 +207,9 @@ final class TentsEdges {
         hides(x, 1, 1, 5 * 98);
         x.leave(5);
         hides(x, 0, 9, 4 * 99);
+        x.leave(1);
+        x.know(2, 0, true);
+        due("heard by the first man, too", x.hide(2, 0, 1), 3 * 9);
     }
 
     @Holds(promise = 18, sentence = "the CELL (what = 0), how much (1)")
@@ -317,7 +320,8 @@ final class TentsEdges {
 
     @Holds(promise = 19, sentence = Edges.NO_CHANGE)
     static void taleRefusedChangesNothing() {
-        Edges.changesNothing("tale 9", FULL, () -> fullOfTales(), x -> x.tale(0, 5, false));
+        Edges.changesNothing("tale 9", FULL, () -> fullOfTales(), x -> x.tale(0, 9, false));
+        Edges.changesNothing("tale 9", FULL, () -> fullOfTales(), x -> x.tale(4, 5, false));
         Edges.changesNothing("tale(1, 0, true)", UNKNOWN, Edges::some, x -> x.tale(1, 0, true));
         Edges.changesNothing("tale(0, 64, true)", OUTSIDE, Edges::some, x -> x.tale(0, 64, true));
     }
@@ -575,6 +579,18 @@ final class TentsEdges {
         due("4 is not more than 4 and a half, 5 is", x.leaves(102345), 11);
         x.gold(1, 4);
         due("4 is not more than 4", x.leaves(102345), NONE);
+    }
+
+    @Holds(promise = 22, sentence = "each the half of it (not cut)")
+    static void leavesAHalfMoreIsMore() {
+        SnoresGold x = Edges.menOn(3, 0);
+        Edges.enrich(x, 0, 0, 5);
+        Edges.enrich(x, 1, 10, 12);
+        Edges.enrich(x, 2, 20, 4);
+        // 1 and 2 have 8 each; 0 and 1 would have 8 and a half each.
+        due("8 and a half is more than 8", x.leaves(21345), 1);
+        x.gold(0, 4);
+        due("8 is not; but 1 alone has 12", x.leaves(21345), 11);
     }
 
     @Holds(promise = 22, sentence = LEAST_TWO)

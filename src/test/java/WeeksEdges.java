@@ -458,7 +458,8 @@ final class WeeksEdges {
         due("ten nights", x.behind(0, 2), 999);
     }
 
-    @Holds(promise = 11, sentence = "or . (a night: each MAN gets the GOLD of all CELLS that he has CLAIMED and KNOWS, together")
+    @Holds(promise = 11, sentence = "or . (a night: each MAN gets the GOLD of all CELLS that he has CLAIMED and KNOWS, "
+        + "together")
     static void behindClaimedOrKnownAloneIsNothing() {
         SnoresGold x = Edges.menOn(2, 0);
         x.gold(3, 9);
